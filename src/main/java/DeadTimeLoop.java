@@ -887,7 +887,7 @@ public final class DeadTimeLoop {
         void tick(Settings settings, boolean isIdeal) {
             int previousOutput = present[U];
             present[M] = present[Y] + noise(settings.get(NOISE));
-            present[P] = delayed(X, settings.get(MODEL_DEAD));
+            present[P] = delayed(X, present[X], settings.get(MODEL_DEAD));
             int mismatch = present[M] - present[P];
             present[F] = stepped(present[F], mismatch, 1000 - settings.get(FILTER));
             judge(Math.abs(mismatch) > settings.get(LIMIT), settings.get(PATIENCE));
@@ -904,17 +904,13 @@ public final class DeadTimeLoop {
             return span < 1 ? 0 : (int) (root * root % 65521 % span - amplitude);
         }
 
-        /** The present tick counts as a tick of its own: it has a value, but no record yet. */
-        private int valueOf(int signal, int tick) {
-            return tick == now && isSignal(signal) ? present[signal] : recordOf(signal, tick);
-        }
-
-        private int delayed(int signal, int tenths) {
-            int newer = now - tenths / 10;
+        /** The tick that is being made has no record yet, so its value is handed in. */
+        private int delayed(int signal, int value, int tenths) {
+            int ticks = tenths / 10;
             int part = tenths % 10;
-            long sum = (long) valueOf(signal, newer) * (10 - part)
-                + (long) valueOf(signal, newer - 1) * part;
-            return (int) Math.floorDiv(sum, 10L);
+            long newer = ticks == 0 ? value : recordOf(signal, now - ticks);
+            long older = recordOf(signal, now - ticks - 1);
+            return (int) Math.floorDiv(newer * (10 - part) + older * part, 10L);
         }
 
         private void judge(boolean isBad, int patience) {
@@ -961,7 +957,7 @@ public final class DeadTimeLoop {
         }
 
         private void moveOn(Settings settings) {
-            long input = delayed(U, settings.get(DEAD)) + load;
+            long input = delayed(U, present[U], settings.get(DEAD)) + load;
             long processGoal = thousandth(settings.get(GAIN) * input);
             long modelGoal = thousandth((long) settings.get(MODEL_GAIN) * present[U]);
             present[Y] = stepped(present[Y], processGoal, 1000 - settings.get(LAG));

@@ -479,6 +479,8 @@ public final class PromisesTest {
         sees("a bad tick, then only one good one", x, 9, 1, 1);
         x.setLoad(11);
         sees("the bad tick begins the count anew", x, 9, 0, 1);
+        x = with("kp=0;ki=0;noise=10;limit=7;patience=2;");
+        sees("noise of -9 and 8 is too great a mismatch", x, 9, 0, 1);
         fallbackOfATick();
     }
 
@@ -488,12 +490,12 @@ public final class PromisesTest {
         x.run(2);
         due("the mode", x.value(9), 1);
         x.setParameter(0, 1001);
-        x.setParameter(1, 7);
+        x.setParameter(1, 11);
         x.setSetpoint(3000);
         x.run(1);
         due("the feedback is m", x.value(6), 2000);
-        due("the gains are 500 and 1", x.value(2), 1002);
-        due("i grows by a thousandth", x.value(7), 2);
+        due("the gains are 500 and 2", x.value(2), 1004);
+        due("i grows by two thousandths", x.value(7), 4);
     }
 
     private static void limitsOfATick() {
@@ -905,6 +907,10 @@ public final class PromisesTest {
         x.setParameter(5, 0);
         x.run(97);
         due("of several the lowest", x.estimatedLag(), 0);
+        x = openLoop("dead=20;", 1);
+        x.run(4);
+        due("a correlation of 1", x.estimatedLag(), 2);
+        due("is enough for tuneDelay()", x.tuneDelay(), 20);
         x = openLoop("dead=300;", 300);
         x.run(32);
         due("the lag 30", x.estimatedLag(), 30);
