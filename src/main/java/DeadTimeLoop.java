@@ -459,8 +459,11 @@ public final class DeadTimeLoop {
         int strongest = NONE;
         long greatest = 0;
         for (int lag = 0; lag <= GREATEST_LAG; lag++) {
-            long sum = lag == excepted ? 0 : correlationFor(lag);
-            if (lag != excepted && (strongest == NONE || sum > greatest)) {
+            if (lag == excepted) {
+                continue;
+            }
+            long sum = correlationFor(lag);
+            if (strongest == NONE || sum > greatest) {
                 strongest = lag;
                 greatest = sum;
             }
