@@ -4,7 +4,6 @@ public final class RunningTest extends Bench {
     }
 
     public static void main(String[] args) {
-        examples();
         numberOfTicks();
         endOfTime();
         questionsTakeNoTime();
@@ -16,45 +15,6 @@ public final class RunningTest extends Bench {
         restartForgetsBadTicks();
         restartKeepsWhatStays();
         Check.end();
-    }
-
-    /** The document's examples. */
-    private static void examples() {
-        DeadTimeLoop x = new DeadTimeLoop();
-        due("setSetpoint(1000)", x.setSetpoint(1000), 0);
-        due("run(1)", x.run(1), 1);
-        due("value(2)", x.value(2), 1100);
-        due("value(3)", x.value(3), 220);
-        due("value(8)", x.value(8), 0);
-        due("recorded(6, 0)", x.recorded(6, 0), 1000);
-        due("measure(0)", x.measure(0), 1000);
-        x = new DeadTimeLoop();
-        x.setSetpoint(1000);
-        due("run(7)", x.run(7), 7);
-        due("value(8)", x.value(8), 367);
-        due("recorded(4, 0)", x.recorded(4, 0), 220);
-        due("idealDifference(50)", x.idealDifference(50), 0);
-        x = new DeadTimeLoop();
-        due("setParameter(7, 0)", x.setParameter(7, 0), 50);
-        due("setParameter(12, 0)", x.setParameter(12, 0), 5000);
-        due("setParameter(13, 1)", x.setParameter(13, 1), 5);
-        x.setSetpoint(1000);
-        due("run(2)", x.run(2), 2);
-        due("value(9)", x.value(9), 1);
-        x = new DeadTimeLoop();
-        write(x, "ki=5;");
-        due("fault()", x.fault(), NOT_FOUND);
-        due("assignedAt(0)", x.assignedAt(0), 1);
-        due("apply()", x.apply(), 1);
-        due("parameter(1)", x.parameter(1), 5);
-        due("undo()", x.undo(), 0);
-        due("parameter(1)", x.parameter(1), 100);
-        x = new DeadTimeLoop();
-        due("setParameter(9, 5)", x.setParameter(9, 5), INVALID);
-        due("run(0)", x.run(0), INVALID);
-        due("recorded(0, 0)", x.recorded(0, 0), NOT_FOUND);
-        due("estimatedLag()", x.estimatedLag(), NOT_FOUND);
-        due("recall()", x.recall(), NOT_POSSIBLE);
     }
 
     /** "ticks: 1 to 500", "Returns the new time" */
